@@ -2,6 +2,8 @@
 public final class NestedDeeds {
     public static final int NONE = -1, BAD = -2, ELDER = -3, FULL = -4, SPENT = -5, DEEP = -6;
 
+    private static final int LEAST_INT = -2147483648, GREATEST_INT = 2147483647;
+
     private static final int KINDS = 12;
     private static final int LEAF = 0, SUM = 1, PRODUCT = 2, LESS = 3, GREATEST = 4, LEAST = 5;
     private static final int TURN = 6, CHOICE = 7, FIRST = 8, LIKE = 9, BITS = 10, SIZE = 11;
@@ -126,7 +128,7 @@ public final class NestedDeeds {
 
     public int of(int deed, int what) {
         if (!deeds.has(deed)) {
-            return Integer.MIN_VALUE;
+            return LEAST_INT;
         }
         switch (what) {
             case 0:
@@ -136,7 +138,7 @@ public final class NestedDeeds {
             case 2:
                 return deeds.number[deed];
             default:
-                return Integer.MIN_VALUE;
+                return LEAST_INT;
         }
     }
 
@@ -217,7 +219,7 @@ public final class NestedDeeds {
     }
 
     public int copy(int deed) {
-        return remake(deed, Integer.MAX_VALUE, false);
+        return remake(deed, GREATEST_INT, false);
     }
 
     public int thin(int deed, int t) {
@@ -225,7 +227,7 @@ public final class NestedDeeds {
     }
 
     public int order(int deed) {
-        return remake(deed, Integer.MAX_VALUE, true);
+        return remake(deed, GREATEST_INT, true);
     }
 
     private int remake(int deed, int most, boolean inOrder) {
@@ -492,7 +494,7 @@ public final class NestedDeeds {
             }
             long value = scanFigures();
             long signed = below ? -value : value;
-            if (signed < Integer.MIN_VALUE || signed > Integer.MAX_VALUE) {
+            if (signed < LEAST_INT || signed > GREATEST_INT) {
                 at = from;
                 return false;
             }
@@ -922,9 +924,9 @@ public final class NestedDeeds {
             if (deeds.partsOf(deed) > 0) {
                 draft.add('(');
             }
-            over = draft.overfull;
         }
 
+        /** Each visit but the first comes behind a choice, so it is enough to look here. */
         int choose(int depth, int deed, int turn) {
             if (turn > 0) {
                 draft.add(',');
@@ -937,7 +939,6 @@ public final class NestedDeeds {
             if (deeds.partsOf(deed) > 0) {
                 draft.add(')');
             }
-            over = draft.overfull;
         }
     }
 

@@ -50,6 +50,7 @@ public final class DeedsTest {
         due("2 the 1501st", x.deed(0, 0), NestedDeeds.FULL);
         due("2 BAD ahead of FULL", x.deed(12, 0), NestedDeeds.BAD);
         due("2 deeds", x.count(0), 1500);
+        due("3 deeds are full, parts are not", x.enclose(1499, 0), 1);
     }
 
     private static void promise3Enclose() {
@@ -92,13 +93,14 @@ public final class DeedsTest {
         due("3 ELDER ahead of FULL", x.enclose(5, 5), NestedDeeds.ELDER);
         due("3 BAD ahead of FULL", x.enclose(5, 1000), NestedDeeds.BAD);
         due("3 all parts", x.count(1), 4000);
-        due("3 chain without parts", x.chain(1, 0, 0, 4, -1), 1000);
+        due("2 parts are full, deeds are not", x.deed(0, 0), 1000);
+        due("3 chain without parts", x.chain(1, 0, 0, 4, -1), 1001);
         due("3 chain with a part", x.chain(1, 0, 0, 1, 0), NestedDeeds.FULL);
-        due("3 copy without parts", x.copy(0), 1001);
+        due("3 copy without parts", x.copy(0), 1002);
         due("3 copy with parts", x.copy(1), NestedDeeds.FULL);
-        due("3 read without parts", Check.readText(x, "a1"), 1002);
+        due("3 read without parts", Check.readText(x, "a1"), 1003);
         due("3 read with parts", Check.readText(x, "b1(a1)"), NestedDeeds.FULL);
-        due("3 deeds", x.count(0), 1003);
+        due("3 deeds", x.count(0), 1004);
     }
 
     private static void promise4Chain() {

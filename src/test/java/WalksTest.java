@@ -24,8 +24,10 @@ public final class WalksTest {
             promise16Widest();
             promise17Copy();
             promise17CopyFull();
+            promise17CopyPartsFull();
             promise18Thin();
             promise19Order();
+            promise19OrderOfLikeMarks();
         }
         CHECK.finish();
     }
@@ -188,6 +190,8 @@ public final class WalksTest {
         due("11 visited until it", x.count(3), 3);
         due("11 FIRST of N 0", x.worth(bound(x, 8, 0, zero)), 0);
         due("11 that is no refusal", x.answer(), 0);
+        due("11 FIRST is the first", x.worth(bound(x, 8, 6, minus, four)), -1);
+        due("11 no more visited", x.count(3), 2);
         due("11 LIKE alone", x.worth(x.deed(9, 0)), 1);
         due("11 LIKE of one", x.worth(bound(x, 9, 0, four)), 1);
         due("11 LIKE of like ones", x.worth(bound(x, 9, 0, four, four, bound(x, 1, 4))), 1);
@@ -211,10 +215,12 @@ public final class WalksTest {
         due("11 BITS at place 63", x.worth(row), Long.MIN_VALUE);
         x.enclose(row, one);
         due("11 BITS at place 64", x.worth(row), Long.MIN_VALUE ^ 1);
+        x.enclose(row, one);
+        due("11 BITS at place 65", x.worth(row), Long.MIN_VALUE ^ 3);
         int minus = x.deed(0, -2);
         due("11 BITS turn around", x.worth(bound(x, 10, 0, zero, minus)), -3);
         due("11 SIZE", x.worth(bound(x, 11, -5, one, row, one)), -2);
-        due("11 SIZE visits its parts", x.count(3), 1 + 1 + 66 + 1);
+        due("11 SIZE visits its parts", x.count(3), 1 + 1 + 67 + 1);
         due("11 SIZE beyond ints", x.worth(bound(x, 11, Integer.MAX_VALUE, one)), 1L + Integer.MAX_VALUE);
     }
 
@@ -316,6 +322,7 @@ public final class WalksTest {
         due("14 write", x.write(d), 37);
         dueText("14 text", Check.paper(x), "a-2147483648(b2147483647(a0,l-10),a0)");
         dueTold(x, "14 write", 0, 5, 3, 3);
+        dueText("14 below 0", Check.written(x, x.deed(2, -1)), "c-1");
         dueText("14 figures", Check.written(x, x.deed(2, 100200)), "c100200");
         due("14 BAD", x.write(99), NestedDeeds.BAD);
         dueText("14 paper stays", Check.paper(x), "c100200");
@@ -455,6 +462,24 @@ public final class WalksTest {
         dueTold(y, "17 FULL", 0, 16383, 14, 20);
     }
 
+    private static void promise17CopyPartsFull() {
+        NestedDeeds x = archive(20);
+        x.chain(400, 1, 0, 4, -1);
+        x.chain(400, 1, 0, 4, -1);
+        int last = x.chain(201, 1, 0, 4, -1);
+        int line = x.chain(3, 1, 0, 1, -1);
+        x.enclose(last, 0);
+        x.enclose(last, 0);
+        x.enclose(last, 0);
+        due("17 3997 parts", x.count(1), 3997);
+        due("17 3999 parts", x.copy(line), 1006);
+        due("17 4001 parts", x.copy(line), NestedDeeds.FULL);
+        due("17 4001 parts, thinned", x.thin(line, 0), NestedDeeds.FULL);
+        due("17 4001 parts, in order", x.order(line), NestedDeeds.FULL);
+        due("17 4000 parts", x.copy(line - 1), 1008);
+        due("17 parts", x.count(1), 4000);
+    }
+
     private static void promise18Thin() {
         NestedDeeds x = archive(5);
         int a = x.deed(0, 5);
@@ -508,6 +533,22 @@ public final class WalksTest {
         x.meter(2);
         due("19 DEEP", x.order(e), way == 0 ? NestedDeeds.DEEP : 20);
         due("19 by the marks ahead of it", orderByMarksAhead(), 1);
+    }
+
+    /** a31 and b0 have the same mark, since a kind more weighs as much as 31 in the number. */
+    private static void promise19OrderOfLikeMarks() {
+        NestedDeeds x = archive(5);
+        int high = x.deed(0, 40);
+        int a = x.deed(0, 31);
+        int b = x.deed(1, 0);
+        due("19 like marks", x.mark(a), x.mark(b));
+        int c = bound(x, 1, 0, high, b, a, b);
+        dueText("19 like ones as they stood", Check.written(x, x.order(c)), "b0(b0,a31,b0,a40)");
+        int d = bound(x, 1, 0, a, b, high, a);
+        dueText("19 like ones as they stood", Check.written(x, x.order(d)), "b0(a31,b0,a31,a40)");
+        dueText("17 a copy is not in order", Check.written(x, x.copy(c)), "b0(a40,b0,a31,b0)");
+        dueText("18 nor what is thinned", Check.written(x, x.thin(c, 100)), "b0(a40,b0,a31,b0)");
+        dueText("19 in order is nothing thinned", Check.written(x, x.order(c)), "b0(b0,a31,b0,a40)");
     }
 
     /** The parts of parts are put in order too, but that must not change by which marks they lie. */
