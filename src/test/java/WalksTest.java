@@ -542,13 +542,13 @@ public final class WalksTest {
         int a = x.deed(0, 31);
         int b = x.deed(1, 0);
         due("19 like marks", x.mark(a), x.mark(b));
-        int c = bound(x, 1, 0, high, b, a, b);
-        dueText("19 like ones as they stood", Check.written(x, x.order(c)), "b0(b0,a31,b0,a40)");
-        int d = bound(x, 1, 0, a, b, high, a);
-        dueText("19 like ones as they stood", Check.written(x, x.order(d)), "b0(a31,b0,a31,a40)");
-        dueText("17 a copy is not in order", Check.written(x, x.copy(c)), "b0(a40,b0,a31,b0)");
-        dueText("18 nor what is thinned", Check.written(x, x.thin(c, 100)), "b0(a40,b0,a31,b0)");
-        dueText("19 in order is nothing thinned", Check.written(x, x.order(c)), "b0(b0,a31,b0,a40)");
+        int c = bound(x, 1, 0, high, b, b, a);
+        dueText("19 like ones as they stood", Check.written(x, x.order(c)), "b0(b0,b0,a31,a40)");
+        int d = bound(x, 1, 0, a, high, b);
+        dueText("19 like ones as they stood", Check.written(x, x.order(d)), "b0(a31,b0,a40)");
+        dueText("17 a copy is not in order", Check.written(x, x.copy(c)), "b0(a40,b0,b0,a31)");
+        dueText("18 nor what is thinned", Check.written(x, x.thin(c, 100)), "b0(a40,b0,b0,a31)");
+        dueText("19 in order is nothing thinned", Check.written(x, x.order(c)), "b0(b0,b0,a31,a40)");
     }
 
     /** The parts of parts are put in order too, but that must not change by which marks they lie. */
