@@ -26,6 +26,7 @@ public final class LanguageTest {
         String source = Files.readString(Path.of("src/main/java/NestedDeeds.java"), StandardCharsets.ISO_8859_1);
         forbiddenWords(source.replaceAll("(?s)/\\*.*?\\*/", " ").replaceAll("//[^\n]*", " "));
         rule8OpenCalls(source);
+        rule11Lines(source);
         CHECK.finish();
     }
 
@@ -89,13 +90,25 @@ public final class LanguageTest {
     }
 
     private static void forbiddenWords(String code) {
-        String[] words = {"\\bthrow\\b", "\\btry\\b", "\\bcatch\\b", "\\bsynchronized\\b", "\\bassert\\b", "\\bimport\\b",
-            "\\bpackage\\b", "\\bprotected\\b", "->", "::", "@", "\"", "\\bObject\\b", "\\bvar\\b", "Exact\\b",
-            "\\bwhile\\b", "\\bdouble\\b", "\\bfloat\\b", "\\bnull\\b"};
+        String[] words = {"\\bthrow\\b", "\\btry\\b", "\\bcatch\\b", "\\bsynchronized\\b", "\\bassert\\b",
+            "\\bimport\\b", "\\bpackage\\b", "\\bprotected\\b", "->", "::", "@", "\"", "\\bObject\\b", "\\bvar\\b",
+            "Exact\\b", "\\bwhile\\b", "\\bdouble\\b", "\\bfloat\\b", "\\bnull\\b"};
         for (String word : words) {
             Matcher matcher = Pattern.compile(word).matcher(code);
             CHECK.due("the code has " + word, matcher.find() ? 1 : 0, 0);
         }
+    }
+
+    /** A method begins and ends at the indentation of members, of the class or of one inside it. */
+    private static void rule11Lines(String source) {
+        Pattern method = Pattern.compile("(?m)^( {4}| {8})(?! |/|\\})[^\n;=]*\\([^\n;=]*\\) \\{\n(.*\n)*?\\1\\}\n");
+        Matcher matcher = method.matcher(source);
+        int found = 0;
+        for (; matcher.find(); found++) {
+            int lines = matcher.group().split("\n").length;
+            CHECK.due("11 lines of" + matcher.group().split("\n")[0], lines <= 60 ? 1 : 0, 1);
+        }
+        CHECK.due("11 methods are found: " + found, found > 80 ? 1 : 0, 1);
     }
 
     /** Own calls, and those around them (eight at most), stay under 300. */

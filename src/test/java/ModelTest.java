@@ -1,9 +1,16 @@
 import java.util.Random;
 
-/** Runs of calls drawn from fixed seeds, each answer compared with that of Model. */
+/**
+ * Runs of calls drawn from fixed seeds, each answer compared with that of Model. What is told is asked for behind each
+ * call, so a run has more than 512 calls: answers are free there, but the class as it stands does not count its calls.
+ */
 public final class ModelTest {
     private static final int[] NUMBERS = {0, 0, 1, 1, 2, 3, -1, -2, 7, 64, -100, 1000003, Integer.MAX_VALUE,
         Integer.MIN_VALUE};
+    /** The edges of all that is bounded, at both sides. */
+    private static final int[] WILD = {Integer.MIN_VALUE, Integer.MIN_VALUE + 1, -400, -12, -11, -10, -2, -1, 0, 1, 2,
+        3, 4, 5, 8, 9, 11, 12, 13, 100, 300, 301, 400, 401, 1499, 1500, 1501, 3999, 4000, 4001, 5999, 6000, 6001, 20000,
+        Integer.MAX_VALUE - 1, Integer.MAX_VALUE};
     private static final String[] SCRAPS = {"a", "b", "l", "m", "0", "1", "-", "-0", "00", "2147483647", "2147483648",
         "-2147483648", "-2147483649", "12345678901", "(", ")", ",", "a1", "b2(", "),c3", "b1(a1,a2)", "\u00ff"};
 
@@ -21,14 +28,14 @@ public final class ModelTest {
 
     public static void main(String[] args) {
         Check check = new Check("ModelTest");
-        for (int seed = 0; seed < 400 && check.isClean(); seed++) {
+        for (int seed = 0; seed < 500 && check.isClean(); seed++) {
             new ModelTest(check, seed).run();
         }
         check.finish();
     }
 
     private void run() {
-        int style = seed % 4;
+        int style = seed % 5;
         for (int i = 0; i < 500 && check.isClean(); i++) {
             int roll = random.nextInt(100);
             if (style == 1 && roll < 15) {
@@ -37,6 +44,8 @@ public final class ModelTest {
                 chain(1 + random.nextInt(6), 1 + random.nextInt(4));
             } else if (style == 3 && roll < 40) {
                 scrap();
+            } else if (style == 4 && roll < 60) {
+                wild();
             } else if (roll < 30) {
                 build();
             } else if (roll < 38) {
@@ -171,6 +180,53 @@ public final class ModelTest {
         int i = random.nextInt(6) - 1;
         due("of(" + d + ", " + i + ")", x.of(d, i), model.of(d, i));
         due("part(" + d + ", " + i + ")", x.part(d, i), model.part(d, i));
+    }
+
+    private int wildInt() {
+        int roll = random.nextInt(10);
+        return roll == 0 ? random.nextInt() : roll < 4 ? random.nextInt(4) : WILD[random.nextInt(WILD.length)];
+    }
+
+    /** Any int for any argument. */
+    private void wild() {
+        int a = wildInt();
+        int b = wildInt();
+        int c = wildInt();
+        String with = "(" + a + ", " + b + ", " + c + ")";
+        switch (random.nextInt(13)) {
+            case 0: due("deed" + with, x.deed(a, b), model.deed(a, b)); break;
+            case 1: due("enclose" + with, x.enclose(a, b), model.enclose(a, b)); break;
+            case 2: wildChain(a, b, c, wildInt(), wildInt()); break;
+            case 3: due("way" + with, x.way(a), model.way(a)); break;
+            case 4: due("meter" + with, x.meter(a), model.meter(a)); break;
+            case 5: due("of" + with, x.of(a, b), model.of(a, b)); break;
+            case 6: due("part" + with, x.part(a, b), model.part(a, b)); break;
+            case 7: due("feed" + with, x.feed((long) c << 32 | a, b), model.feed((long) c << 32 | a, b)); break;
+            case 8: due("byteAt" + with, x.byteAt(a), model.byteAt(a)); break;
+            case 9: due("count" + with, x.count(a), model.count(a)); break;
+            default: wildWalk(with, a, b, c); break;
+        }
+    }
+
+    private void wildChain(int n, int kind, int number, int times, int first) {
+        String call = "chain(" + n + ", " + kind + ", " + number + ", " + times + ", " + first + ")";
+        due(call, x.chain(n, kind, number, times, first), model.chain(n, kind, number, times, first));
+    }
+
+    private void wildWalk(String with, int a, int b, int c) {
+        switch (random.nextInt(11)) {
+            case 0: due("size" + with, x.size(a), model.size(a)); break;
+            case 1: due("depth" + with, x.depth(a), model.depth(a)); break;
+            case 2: due("worth" + with, x.worth(a), model.worth(a)); break;
+            case 3: due("mark" + with, x.mark(a), model.mark(a)); break;
+            case 4: due("alike" + with, x.alike(a, b), model.alike(a, b)); break;
+            case 5: due("write" + with, x.write(a), model.write(a)); break;
+            case 6: due("find" + with, x.find(a, b, c), model.find(a, b, c)); break;
+            case 7: due("widest" + with, x.widest(a, b), model.widest(a, b)); break;
+            case 8: due("copy" + with, x.copy(a), model.copy(a)); break;
+            case 9: due("thin" + with, x.thin(a, b), model.thin(a, b)); break;
+            default: due("order" + with, x.order(a), model.order(a)); break;
+        }
     }
 
     private void told() {
